@@ -8,6 +8,7 @@ public final class HopeTest {
         twoDeeds();
         alike();
         leastTerms();
+        mostOfAll();
         refusals();
         buyers();
         best();
@@ -83,6 +84,19 @@ public final class HopeTest {
         hope(x, 0, 8, 1, 72 * 78125 + 390625 - 65536, 390625);
     }
 
+    /** As many deeds and subjects as there may be, and then fewer. */
+    private static void mostOfAll() {
+        BlankPardons x = Check.in("p/999/999/999/999/999;h0;h0;h0;h3");
+        hope(x, 3, 8, 3, 270, 1);
+        check.due("10: five deeds", x.uses(3, 1, 1), 31);
+        check.due("11: four buyers", x.buyers(90, 8), 15);
+        check.due("12: four buyers", x.best(8), 90);
+        Check.found(x, "p/999;h0");
+        hope(x, 0, 8, 3, 270, 1);
+        check.due("10: none of the deeds that were", x.uses(0, 1, 1), 1);
+        check.due("11: none of the subjects that were", x.buyers(90, 1), 1);
+    }
+
     private static void refusals() {
         BlankPardons x = Check.in("p/225/459;s0;m0");
         check.due("9: subject", x.hope(2, 0, 0, 0), LOST);
@@ -146,6 +160,7 @@ public final class HopeTest {
         check.due("12: 90", z.best(8), 90);
         BlankPardons u = Check.in("p/900;s3;s0");
         check.due("12: nothing to fear", u.best(8), -9);
+        check.due("12: a gain of 1", Check.in("p/211;s3").best(1), 1);
         // A gain of 1/2 is no whole price.
         BlankPardons v = Check.in("p/211/000;s3");
         check.due("12: no buyers at 1", v.best(1), -9);

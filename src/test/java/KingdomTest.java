@@ -195,6 +195,11 @@ public final class KingdomTest {
         check.due("4: does", x.ofSubject(0, 2), 7);
         check.due("4: a VALUE of 0 is not done", x.ofSubject(1, 2), 4);
         check.due("4: does", x.ofSubject(2, 2), 4);
+        check.due("4: a VALUE of 1 is done", Check.in("p/133;s0").ofSubject(0, 2), 1);
+        BlankPardons most = Check.in("p/900/900/900/900/900;s0;m0;h0;s0");
+        check.due("4: five deeds", most.ofSubject(3, 2), 31);
+        Check.found(most, "p/900;s0");
+        check.due("4: none of the deeds that were", most.ofSubject(0, 2), 1);
         check.due("4: unknown first", x.ofSubject(3, 3), -1);
         check.due("4: unknown", x.ofSubject(-1, 0), -1);
         check.due("4: outside", x.ofSubject(0, 3), -2);
