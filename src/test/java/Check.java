@@ -1,13 +1,27 @@
+import java.io.IOException;
+import java.nio.file.Files;
+import java.nio.file.Path;
+
 /** Counts answers that are not as due, and sets up kingdoms for the tests. */
 final class Check {
+    private static final Path DOCUMENT = Path.of("../shared/DOC.md");
+
+    private final String document = words();
+    private String sentence = "";
     private int wrong;
     private int seen;
+
+    /** The document's sentence that the next answers are due by: word for word, or the test itself is wrong. */
+    void sentence(String words) {
+        sentence = "\"" + words + "\": ";
+        holds("the document says so", document.isEmpty() || document.contains(words));
+    }
 
     void due(String call, long got, long want) {
         seen++;
         if (got != want) {
             wrong++;
-            System.out.println(call + " answered " + got + ", due is " + want);
+            System.out.println(sentence + call + " answered " + got + ", due is " + want);
         }
     }
 
@@ -15,7 +29,7 @@ final class Check {
         seen++;
         if (!so) {
             wrong++;
-            System.out.println("not so: " + what);
+            System.out.println(sentence + "not so: " + what);
         }
     }
 
@@ -24,6 +38,20 @@ final class Check {
         if (wrong != 0 || seen == 0) {
             System.exit(1);
         }
+    }
+
+    private static String words() {
+        try {
+            return Files.exists(DOCUMENT) ? Files.readString(DOCUMENT).replaceAll("\\s+", " ") : "";
+        } catch (IOException unread) {
+            throw new IllegalStateException(unread);
+        }
+    }
+
+    /** Numbers that are none of from .. to: beside it, far off, and such as come into it if they are cut or wrap. */
+    static int[] beyond(int from, int to) {
+        return new int[] {from - 1, to + 1, Integer.MIN_VALUE, Integer.MAX_VALUE, from + 256, from + 65536,
+            from + (1 << 30), from + Integer.MIN_VALUE, -1 - to};
     }
 
     /** Writes the text's codes to a new row of the sheet. */

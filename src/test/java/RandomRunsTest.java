@@ -2,7 +2,8 @@ import java.util.Random;
 
 /** Many runs of calls by chance (the same each time): the class answers as the model does, and never throws. */
 public final class RandomRunsTest {
-    private static final int RUNS = 3000, CALLS = 512;
+    // A step takes less than 100 calls; what an object answers behind its 512th is free.
+    private static final int RUNS = 3000, CALLS = 512 - 100;
     private static final int[] ODD = {Integer.MIN_VALUE, Integer.MAX_VALUE, -1, -2, 60, 61, 62, 1 << 30, -(1 << 30)};
 
     private final Check check;
