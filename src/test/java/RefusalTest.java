@@ -50,7 +50,7 @@ public final class RefusalTest {
         return x;
     }
 
-    /** All that can be asked, but fault(); the READINGS one by one, from the last back. */
+    /** DEEDS, SUBJECTS, SHEETS, TRACE, how many, and the READINGS one by one, from the last back; not fault(). */
     private static String seen(BlankPardons x) {
         StringBuilder all = new StringBuilder();
         all.append(x.trace());
