@@ -2,14 +2,15 @@ import java.util.Random;
 
 /** Many runs of calls by chance (the same each time): the class answers as the model does, and never throws. */
 public final class RandomRunsTest {
-    // A step takes less than 100 calls; what an object answers behind its 512th is free.
-    private static final int RUNS = 3000, CALLS = 512 - 100;
+    // What an object answers behind its 512th call is free.
+    private static final int RUNS = 3000, CALLS = 512;
     private static final int[] ODD = {Integer.MIN_VALUE, Integer.MAX_VALUE, -1, -2, 60, 61, 62, 1 << 30, -(1 << 30)};
 
     private final Check check;
     private final Random chance;
     private final BlankPardons x = new BlankPardons();
     private final Model model = new Model();
+    private int calls;
 
     private RandomRunsTest(Check check, long seed) {
         this.check = check;
@@ -25,16 +26,16 @@ public final class RandomRunsTest {
     }
 
     private void go(int run) {
-        int calls = 0;
         while (calls < CALLS) {
             if (chance.nextInt(40) == 0) {
-                calls += write(someText());
+                write(someText());
             } else if (chance.nextInt(40) == 0) {
-                calls += write(someYear());
+                write(someYear());
             } else {
-                calls += anyCall(run);
+                anyCall(run);
             }
         }
+        check.holds("run " + run + " has " + CALLS + " calls", calls == CALLS);
     }
 
     /** A number from 0 to most, mostly; now and then one beside or far off. */
@@ -87,34 +88,39 @@ public final class RandomRunsTest {
         return cells;
     }
 
-    /** Writes the cells to a sheet and uses them, as a text and as years. */
-    private int write(int[] cells) {
+    /** Writes the cells to a sheet and uses them, as a text and as years, as far as there are calls left. */
+    private void write(int[] cells) {
         int k = chance.nextInt(4);
         int lane = chance.nextInt(3);
         int from = chance.nextInt(3);
         int length = Math.min(60, cells.length + from + chance.nextInt(3));
         due("sheet", x.sheet(k, lane, length), model.sheet(k, lane, length));
-        int calls = 1;
-        for (int i = 0; i < cells.length; i++) {
+        for (int i = 0; i < cells.length && calls < CALLS; i++) {
             due("put", x.put(k, from + i, cells[i]), model.put(k, from + i, cells[i]));
-            calls++;
         }
-        due("kingdom", x.kingdom(k, lane, from, cells.length), model.kingdom(k, lane, from, cells.length));
-        calls++;
-        for (int what = 0; what < 14; what++) {
+        if (calls < CALLS) {
+            due("kingdom", x.kingdom(k, lane, from, cells.length), model.kingdom(k, lane, from, cells.length));
+        }
+        for (int what = 0; what < 14 && calls < CALLS; what++) {
             int n = cells.length / 3 - chance.nextInt(2);
             due("year", x.year(k, lane, from, n, what), model.year(k, lane, from, n, what));
-            due("fault", x.fault(), model.fault());
-            calls += 2;
+            thenFault("");
         }
-        return calls;
     }
 
+    /** One call each. */
     private void due(String call, long got, long want) {
+        calls++;
         check.due(call, got, want);
     }
 
-    private int anyCall(int run) {
+    private void thenFault(String at) {
+        if (calls < CALLS) {
+            due(at + "then fault", x.fault(), model.fault());
+        }
+    }
+
+    private void anyCall(int run) {
         int a = some(3);
         int b = some(4);
         int c = some(3);
@@ -154,8 +160,7 @@ public final class RandomRunsTest {
             case 26 -> due(at + "fault", x.fault(), model.fault());
             default -> due(at + "many", x.many(b), model.many(b));
         }
-        due(at + "then fault", x.fault(), model.fault());
-        return 2;
+        thenFault(at);
     }
 
     /** The model goes through all prices for this: not each time. */
